@@ -316,7 +316,7 @@ public final class ZoneTree {
         }
     }
 
-    /** Rows of records, at most one of a sort at a place. */
+    /** Rows of records, at most one of a sort at a place; a row that is not there has the number NONE. */
     private static final class Records {
         private final int[] places;
         private final int[] sorts;
@@ -601,7 +601,8 @@ public final class ZoneTree {
                 if (row == NONE) {
                     int place = placeFor(held, at);
                     row = held.rowOf(place, ALIAS);
-                    if (row == NONE || sort == ALIAS || held.rowOf(place, sort) != NONE) {
+                    // Beside an ALIAS no record of another sort can be FOUND.
+                    if (row == NONE || sort == ALIAS) {
                         answerAt(held, place, at, sort, least, answer);
                         return;
                     }
@@ -954,10 +955,8 @@ public final class ZoneTree {
                     goDown();
                     continue;
                 }
-                if (part.kind != LOST && part.kind != FAILED) {
-                    life = Math.min(life, part.life);
-                    worstTrust = Math.max(worstTrust, zoneTrust);
-                }
+                life = Math.min(life, part.life);
+                worstTrust = Math.max(worstTrust, zoneTrust);
                 if (part.kind != LED) {
                     break;
                 }

@@ -27,7 +27,24 @@ public final class Promise05Test {
         due.is("twice", tree.update(0), false);
         due.is("nothing is done", tree.record(0, 1, Build.TREE), 2);
         wrong(due, tree);
+        theOthers(due);
         due.end();
+    }
+
+    private static void theOthers(Due due) {
+        ZoneTree tree = new ZoneTree();
+        for (int i = 1; i <= 5; i++) {
+            tree.put(i, Build.VALUE, 10 + i, 20 + i);
+        }
+        tree.update(0);
+        due.is("the first of five", Build.drop(tree, 0, 1, Build.VALUE), true);
+        for (int i = 2; i <= 5; i++) {
+            tree.ask(0, i, Build.VALUE);
+            Build.told(due, "the others stay as they are", tree, 10 + i, i, 20 + i);
+        }
+        due.is("the last one", Build.drop(tree, 0, 5, Build.VALUE), true);
+        due.is("three", tree.zoneHas(0, 2), 3);
+        due.is("as they are", tree.record(0, 4, Build.VALUE), 14);
     }
 
     private static void wrong(Due due, ZoneTree tree) {

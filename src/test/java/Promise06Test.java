@@ -98,6 +98,18 @@ public final class Promise06Test {
         due.is("over a star of it alone", Build.put(tree, 0, 240, Build.VALUE, 2, 1), true);
         due.is("that", Build.put(tree, 0, 24, Build.TREE, 2, 1), false);
         due.is("at the apex", Build.put(new ZoneTree(), 0, 0, Build.TREE, 2, 1), true);
+        ZoneTree other = new ZoneTree();
+        other.put(3, Build.VALUE, 1, 1);
+        other.put(12, Build.VALUE, 1, 1);
+        other.put(13, Build.VALUE, 1, 1);
+        other.update(0);
+        other.drop(13, Build.VALUE);
+        other.drop(12, Build.VALUE);
+        other.put(1, Build.TREE, 2, 1);
+        due.is("in place of all that was under it", other.update(0), true);
+        ZoneTree first = new ZoneTree();
+        Build.put(first, 0, 12, Build.VALUE, 1, 1);
+        due.is("over the first record of all", Build.put(first, 0, 1, Build.TREE, 2, 1), false);
     }
 
     private static void cuts(Due due) {

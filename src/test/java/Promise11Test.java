@@ -100,6 +100,16 @@ public final class Promise11Test {
         ask(due, tree, 1, 151, 0, Build.NO_DATA, -1, 1, 5);
         ask(due, tree, 1, 161, 0, Build.NO_NAME, -1, 1211, 5);
         ask(due, tree, 1, 1611, 0, Build.LOST, -1, -1, 0);
+        ZoneTree other = new ZoneTree();
+        Build.put(other, 0, 1, Build.TREE, 2, 3);
+        Build.put(other, 0, 2345, Build.VALUE, 5, 4);
+        ask(due, other, 0, 1345, 0, Build.FOUND, 5, 2345, 3);
+        Build.drop(other, 0, 1, Build.TREE);
+        ask(due, other, 0, 1345, 0, Build.NO_NAME, -1, 1345, 10);
+        ZoneTree whole = new ZoneTree();
+        Build.put(whole, 0, 0, Build.TREE, 12, 3);
+        ask(due, whole, 0, 0, 0, Build.NO_DATA, -1, 0, 10);
+        ask(due, whole, 0, 3, 0, Build.LOST, -1, -1, 0);
     }
 
     private static void cuts(Due due) {
@@ -132,6 +142,19 @@ public final class Promise11Test {
         ask(due, tree, 0, 1, 3, Build.FOUND, 1, 1, 20);
         Build.put(tree, 0, 1, Build.TREE, 5, 3);
         ask(due, tree, 0, 15, 0, Build.REFERRED, -1, 1, 20);
+        Build.put(tree, 1, 11, Build.ALIAS, 1211, 8);
+        ask(due, tree, 1, 11, 4, Build.LED, -1, 1211, 8);
+        Build.drop(tree, 0, 1, Build.TREE);
+        due.is("the CUT dropped", Build.drop(tree, 0, 1, Build.CUT), true);
+        ask(due, tree, 0, 15, 0, Build.NO_NAME, -1, 15, 10);
+        ZoneTree other = new ZoneTree();
+        other.zone(12, 5);
+        other.zone(1, 5);
+        Build.put(other, 0, 12, Build.CUT, 1, 7);
+        ask(due, other, 0, 123, 0, Build.REFERRED, -1, 12, 7);
+        Build.put(other, 0, 1, Build.CUT, 2, 8);
+        ask(due, other, 0, 123, 0, Build.REFERRED, -1, 1, 8);
+        ask(due, other, 0, 12, 3, Build.REFERRED, -1, 1, 8);
     }
 
     private static void lost(Due due) {

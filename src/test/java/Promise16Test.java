@@ -32,6 +32,11 @@ public final class Promise16Test {
         tree.resolve(9, 0);
         tree.pass(9);
         due.is("still held", tree.forget(), 1);
+        tree.resolve(9, 0);
+        due.is("asked anew", tree.told(3), 1);
+        due.is("one", tree.forget(), 1);
+        tree.resolve(11, 0);
+        due.is("the first one of all is forgotten as well", tree.told(3), 2);
         due.end();
     }
 }
