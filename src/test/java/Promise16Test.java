@@ -37,6 +37,12 @@ public final class Promise16Test {
         due.is("one", tree.forget(), 1);
         tree.resolve(11, 0);
         due.is("the first one of all is forgotten as well", tree.told(3), 2);
+        ZoneTree other = new ZoneTree();
+        other.resolve(9, 0);
+        due.is("the only one", other.forget(), 1);
+        due.is("it is gone", other.forget(), 0);
+        other.resolve(9, 0);
+        due.is("and asked for anew", other.told(3), 1);
         due.end();
     }
 }
