@@ -888,10 +888,12 @@ public final class ZoneTree {
                 count++;
                 return count - 1;
             }
-            int first = 0;
-            for (int i = 1; i < turns.length; i++) {
-                if (turns[i] < turns[first]) {
+            int first = NONE;
+            int firstTurn = turn;
+            for (int i = 0; i < count && i < turns.length; i++) {
+                if (turns[i] < firstTurn) {
                     first = i;
+                    firstTurn = turns[i];
                 }
             }
             return first;

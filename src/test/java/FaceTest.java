@@ -62,6 +62,15 @@ public final class FaceTest {
             && made[0].getParameterCount() == 0, true);
     }
 
+    /** The names of the methods of the face. */
+    static String[] names() {
+        String[] names = new String[METHODS.length];
+        for (int i = 0; i < names.length; i++) {
+            names[i] = METHODS[i].substring(METHODS[i].indexOf(' ') + 1, METHODS[i].indexOf('('));
+        }
+        return names;
+    }
+
     private static String told(Method method) {
         StringBuilder text = new StringBuilder(method.getReturnType().getName() + " " + method.getName() + "(");
         for (Class<?> type : method.getParameterTypes()) {
