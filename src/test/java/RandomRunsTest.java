@@ -15,6 +15,8 @@ public final class RandomRunsTest {
     private int calls;
     // Names that are resolved again and again, so that what is kept counts, and gets old.
     private final int[] favourites = new int[12];
+    // Far more names than answers can be kept, each resolved a few times.
+    private final int[] manyNames = new int[80];
     private String run;
 
     private int below(int bound) {
@@ -194,6 +196,31 @@ public final class RandomRunsTest {
         }
     }
 
+    private void resolveOneOfMany() {
+        int name = manyNames[below(manyNames.length)];
+        both("resolve " + name, () -> tree.resolve(name, 0), () -> model.resolve(name, 0, false));
+        both("questions", () -> tree.told(3), () -> model.latest[3]);
+        both("is old", () -> tree.told(4), () -> model.latest[4]);
+        seen[50 + (model.answers.size() == 40 ? 1 : 0)]++;
+    }
+
+    private void manyCalls() {
+        int kind = below(100);
+        if (kind < 4) {
+            int zone = anyZone();
+            boolean isDead = chance(30);
+            tree.setDead(zone, isDead);
+            calls++;
+            model.parts.get(zone).dead = isDead;
+        } else if (kind < 10) {
+            passOrForget();
+        } else if (kind < 12) {
+            update();
+        } else {
+            resolveOneOfMany();
+        }
+    }
+
     private void setTrust() {
         int zone = anyZone();
         int kind = below(4);
@@ -316,8 +343,16 @@ public final class RandomRunsTest {
         if (chance(80)) {
             plant();
         }
+        for (int i = 0; i < manyNames.length; i++) {
+            manyNames[i] = chance(30) ? under(APEXES[below(APEXES.length)]) : 1 + below(9) + 10 * (1 + below(9));
+        }
+        boolean isOfMany = number % 4 == 0;
         while (calls < CALLS - 60) {
-            oneCall(calls < 150 ? 45 : talk);
+            if (isOfMany && calls > 100) {
+                manyCalls();
+            } else {
+                oneCall(calls < 150 ? 45 : talk);
+            }
         }
     }
 
@@ -327,7 +362,7 @@ public final class RandomRunsTest {
             test.oneRun(i);
         }
         if (args.length > 0) {
-            for (int i = 0; i < 50; i++) {
+            for (int i = 0; i < test.seen.length; i++) {
                 System.out.println(i + ": " + test.seen[i]);
             }
         }
